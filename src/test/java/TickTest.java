@@ -22,7 +22,10 @@ public final class TickTest {
         tooManyAreStopped();
         shedInTheOtherTubeFirst();
         shedWithoutFire();
+        shedThoseAgainstToo();
         startedByRun();
+        blowingAgainstIsNoRefusal();
+        runIsCountedInBothTubes();
         startsEndAtTheFirstRefusal();
         startsInTheTubeOfTheFireFirst();
         restedForADirection();
@@ -391,6 +394,18 @@ public final class TickTest {
         dueCommands(x, "tube 0 later", 0, 1, 1);
     }
 
+    private static void shedThoseAgainstToo() {
+        TunnelWatch x = withFans(4, 0, 1000, new int[] {10}, new int[] {});
+        x.lag(0, 0, 5);
+        x.plan(0, 0, 1, -1, 1, 0);
+        x.wish(0, 1, 1);
+        x.ticks(20);
+        x.pull(0, 0);
+        x.limit(9);
+        x.ticks(1);
+        dueCommands(x, "the limit does not wait for a halt", 0, 0);
+    }
+
     // ---- step 6
 
     private static void startedByRun() {
@@ -403,6 +418,30 @@ public final class TickTest {
         x.wish(0, 1, 2);
         x.ticks(1);
         dueCommands(x, "those that ran least", 0, 0, 1, 1);
+    }
+
+    private static void blowingAgainstIsNoRefusal() {
+        TunnelWatch x = withFans(4, 0, 1000, new int[] {1, 1}, new int[] {1});
+        x.lag(0, 0, 5);
+        x.plan(0, 0, 1, -1, 2, 1);
+        x.wish(0, 1, 1);
+        x.ticks(20);
+        x.pull(0, 0);
+        x.ticks(1);
+        dueCommands(x, "none starts against another one", 0, 1, 0);
+        dueCommands(x, "the other tube's does", 1, 1);
+    }
+
+    private static void runIsCountedInBothTubes() {
+        TunnelWatch x = withFans(2, 0, 1000, new int[] {1}, new int[] {1});
+        x.ticks(3);
+        CHECK.due("none is wished at first", x.load(), 0);
+        CHECK.due("the wished direction at first", x.tube(0, 2), 1);
+        CHECK.due("the wished direction at first", x.tube(1, 2), 1);
+        x.wish(1, 1, 1);
+        x.ticks(4);
+        CHECK.due("it stood", x.device(0, 2, 4), 0);
+        CHECK.due("it has run", x.device(1, 2, 4), 4);
     }
 
     private static void startsEndAtTheFirstRefusal() {

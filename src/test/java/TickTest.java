@@ -515,7 +515,7 @@ public final class TickTest {
         CHECK.due("it has run", x.device(0, 2, 4), 16);
     }
 
-    /** Both ran alike: the small fan is stopped first, and there is room for it behind the great one's stop. */
+    /** Both ran alike: the small fan is stopped first, and has room again when the great one is too. */
     private static void stoppedAndStartedInOneTick() {
         TunnelWatch x = withFans(2, 0, 1000, new int[] {1, 100}, new int[] {});
         x.wish(0, 1, 2);

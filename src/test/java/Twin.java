@@ -7,8 +7,9 @@ import java.util.stream.Collectors;
 import java.util.stream.IntStream;
 
 /**
- * A second telling of the document, slow and written apart from the program: it keeps all that was
- * sent, with its tick, and derives runs, starts, rest and load from that each time.
+ * A second telling of the document, slow and in another form than the program: it keeps all that was
+ * sent, with its tick, and derives starts, rest and load from that each time. It shares the program's
+ * reading of the document, so it finds slips, not misreadings.
  */
 final class Twin {
     /** A command that was sent. */

@@ -6,11 +6,21 @@ final class Check {
     }
 
     private final String name;
+    private String place = "";
     private int seen = 0;
     private int wrong = 0;
 
     Check(String name) {
         this.name = name;
+    }
+
+    /** What is looked at from now on. */
+    void at(String newPlace) {
+        place = newPlace + ": ";
+    }
+
+    int seen() {
+        return seen;
     }
 
     void due(String what, long got, long want) {
@@ -25,7 +35,7 @@ final class Check {
         seen++;
         if (!got.equals(want)) {
             wrong++;
-            System.out.println(name + ": " + what + " answered " + got + ", due is " + want);
+            System.out.println(name + ": " + place + what + " answered " + got + ", due is " + want);
         }
     }
 
@@ -37,7 +47,11 @@ final class Check {
         dueText(what, thrownBy(call), "IllegalStateException");
     }
 
-    private static String thrownBy(Call call) {
+    void legal(String what, Call call) {
+        dueText(what, thrownBy(call), "nothing thrown");
+    }
+
+    static String thrownBy(Call call) {
         try {
             call.run();
             return "nothing thrown";
